@@ -544,14 +544,15 @@ public final class TrunkReserve {
             calls++;
             time++;
             own.offered++;
+            int h = place / 10;
             int l = place % 10;
-            Group where = place == NONE ? null : groupWithLine(place / 10, l);
+            Group where = place == NONE ? null : groupWithLine(h, l);
             if (where == null) {
                 own.lost++;
                 return NONE;
             }
             where.hold(l, number, g);
-            if (where == own) {
+            if (h == g) {
                 own.taken++;
             } else {
                 own.wentOver++;
@@ -845,7 +846,8 @@ public final class TrunkReserve {
         void settle(Net net, Weights weights) {
             Arrays.fill(loads, 0);
             boolean changes = true;
-            for (rounds = 0; rounds < MOST_ROUNDS && changes; rounds++) {
+            for (int round = 1; round <= MOST_ROUNDS && changes; round++) {
+                rounds = round;
                 loseEach(net, weights);
                 sendOver(net);
                 changes = takeNewLoads();

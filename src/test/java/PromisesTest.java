@@ -116,6 +116,7 @@ public final class PromisesTest {
 
     // promise 3, section 2: all groups together
     private static void groupTogether() {
+        due("P asked first of all", new TrunkReserve().group(1, 14), 210);
         TrunkReserve x = new TrunkReserve();
         // Group 0: weights 1000000, 1000000: P 500. Group 1 then has B 500 and, without reserve,
         // weights 1000000, 1500000: P 600.
@@ -127,9 +128,10 @@ public final class PromisesTest {
         // All lines held back: what comes over changes nothing.
         x.shape(1, 1, 1, 1, NONE, 0);
         groupIs("together, reserve", x, 1, 13, 500, 500);
-        // Each over the other: B 0; 500; 600; 615 (1615 / 2615 is 617); 617; 617 (1617 / 2617 is 617).
+        // Each over the other: B becomes 500, 600, 615, 617, and 617 again.
         x.shape(1, 1, 1, 0, 0, 0);
         due("together, ring: rounds", x.told(5), 5);
+        due("together, ring: rounds, asked again", x.told(5), 5);
         groupIs("together, ring", x, 0, 13, 617, 617);
         groupIs("together, ring", x, 1, 13, 617, 617);
         // Two over one, no load of its own: B 500 and 2 times 666.
@@ -173,8 +175,9 @@ public final class PromisesTest {
         x.write(1, 0, 0);
         x.shape(0, 1, 6, 1, 1, 3);
         callsGo("ahead of build", x, 0, 0, 10);
+        x.damage(0, 0);
         due("build(4)", x.build(4), 2);
-        toldIs("built", x, 4, 0, 0, 0, 0, 1, 1, NONE, 4);
+        toldIs("built", x, 4, 0, 0, 0, 0, 1, 1, NONE, 5);
         for (int g = 0; g < 4; g++) {
             groupIs("built", x, g, 0, 3, 2, 0, NONE, 0, 7, 0, 0, 0, 0, 0, 0, 10 * g, 0, 210);
         }
@@ -188,8 +191,8 @@ public final class PromisesTest {
         due("build(-1)", x.build(-1), OUTSIDE);
         due("build(far)", x.build(FAR), OUTSIDE);
         due("as many groups as ahead", x.told(0), 1);
-        due("undone thrice", x.undo(3), 2);
-        groupIs("build undone", x, 0, 0, 1, 6, 1, 1, 3, 0, 1, 0, 2, 1, 1, 0, 11);
+        due("undone thrice", x.undo(3), 3);
+        groupIs("build undone", x, 0, 0, 1, 6, 1, 1, 3, 0, 0, 1, 2, 1, 1, 1, 11);
         due("the seed stays", x.seed(0), 77);
     }
 
@@ -408,11 +411,30 @@ public final class PromisesTest {
         groupIs("undo call, shape", x, 0, 0, 3, 2, 0, NONE, 0, 7, 0, 0, 0, 0, 0, 0, 0);
         due("calls", x.told(2), 0);
         due("nothing left", x.told(8), 0);
+        undoOfChoice();
         undoOfMany();
         due("undo(0)", x.undo(0), OUTSIDE);
         due("undo(-1)", x.undo(-1), OUTSIDE);
         due("undo(21)", x.undo(21), OUTSIDE);
         due("undo(far)", x.undo(FAR), OUTSIDE);
+    }
+
+    private static void undoOfChoice() {
+        TrunkReserve x = new TrunkReserve();
+        x.shape(0, 3, 2, 0, NONE, 3);
+        x.call(0);
+        x.call(0);
+        x.undo(1);
+        callsGo("the ring is as ahead", x, 0, 1);
+        x.shape(0, 2, 2, 0, NONE, 2);
+        callsGo("two calls", x, 0, 0, 1);
+        x.end(0, 1);
+        x.end(0, 0);
+        x.damage(0, 1);
+        x.mend(0, 1);
+        due("free for a short while", x.group(0, 12), 0);
+        x.undo(2);
+        due("free as long as ahead", x.group(0, 12), 1);
     }
 
     private static void undoOfMany() {
