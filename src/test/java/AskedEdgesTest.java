@@ -100,11 +100,16 @@ public final class AskedEdgesTest {
     /** One GROUP of one LINE, HELD: a CALL is LOST there, an END frees it. */
     private static void kindsOfDraws() {
         String held = "build(1); shape(0, 1, 2, 0, NONE, 0); call(0); ";
-        sentence("a DRAW of 5: on 0 a CALL comes", held + "seed(0); drift(1) = 1; told(2) = 2; told(1) = 2; seed(0) = 1406932606");
-        sentence("a DRAW of 5: on 1 a CALL comes", held + "seed(6); drift(1) = 1; told(2) = 2; told(1) = 2; seed(0) = 1672197364");
-        sentence("a DRAW of 5: on 2 a CALL comes", held + "seed(3); drift(1) = 1; told(2) = 2; told(1) = 2; seed(0) = 465823161");
-        sentence("a DRAW of 5: on 3 a CALL ENDS", held + "seed(1); drift(1) = 0; told(2) = 1; told(1) = 2; seed(0) = 662824084");
-        sentence("a DRAW of 5: on 4 a CALL ENDS", held + "seed(7); drift(1) = 0; told(2) = 1; told(1) = 2; seed(0) = 712265938");
+        sentence("a DRAW of 5: on 0 a CALL comes",
+            held + "seed(0); drift(1) = 1; told(2) = 2; told(1) = 2; seed(0) = 1406932606");
+        sentence("a DRAW of 5: on 1 a CALL comes",
+            held + "seed(6); drift(1) = 1; told(2) = 2; told(1) = 2; seed(0) = 1672197364");
+        sentence("a DRAW of 5: on 2 a CALL comes",
+            held + "seed(3); drift(1) = 1; told(2) = 2; told(1) = 2; seed(0) = 465823161");
+        sentence("a DRAW of 5: on 3 a CALL ENDS",
+            held + "seed(1); drift(1) = 0; told(2) = 1; told(1) = 2; seed(0) = 662824084");
+        sentence("a DRAW of 5: on 4 a CALL ENDS",
+            held + "seed(7); drift(1) = 0; told(2) = 1; told(1) = 2; seed(0) = 712265938");
         sentence("if that is HELD, its CALL ENDS: it is FREE, nothing happens, but the DRAW is done",
             "build(1); shape(0, 1, 2, 0, NONE, 0); seed(1); drift(1) = 0; told(1) = 0; told(2) = 0; told(8) = 3",
             "seed(0) = 662824084; line(0, 0, 0) = 0");
@@ -115,7 +120,8 @@ public final class AskedEdgesTest {
 
     private static void drawsOfGroupsAndLines() {
         sentence("of GROUPS: of one", "build(1); drift(1) = 1; group(0, 8) = 1");
-        sentence("of GROUPS: of two", "drift(1) = 1; group(0, 8) = 1; group(1, 8) = 0; seed(3); drift(1) = 2; group(1, 8) = 1");
+        sentence("of GROUPS: of two",
+            "drift(1) = 1; group(0, 8) = 1; group(1, 8) = 0; seed(3); drift(1) = 2; group(1, 8) = 1");
         sentence("of GROUPS: of three",
             "build(3); drift(1) = 1; group(0, 8) = 1; seed(4); drift(1) = 2; group(1, 8) = 1; seed(13); drift(1) = 3",
             "group(2, 8) = 1");
@@ -137,8 +143,10 @@ public final class AskedEdgesTest {
             "drift(0) = OUTSIDE; drift(-1) = OUTSIDE; drift(21) = OUTSIDE; drift(MAX) = OUTSIDE; drift(MIN) = OUTSIDE",
             "seed(0) = 0; told(8) = 0; drift(1) = 1; told(8) = 1; drift(2); told(8) = 3; drift(19); told(8) = 20",
             "drift(20); told(8) = 20; drift(21) = OUTSIDE; drift(0) = OUTSIDE");
-        sentence("n times BY DRAWS: 19 and one are 20", "drift(19) = 5; told(1) = 18; drift(1) = 6; told(1) = 19; seed(0) = 837716109");
-        sentence("n times BY DRAWS: 20 at once", "drift(20) = 6; told(1) = 19; told(2) = 15; told(4) = 5; told(8) = 20; seed(0) = 837716109");
+        sentence("n times BY DRAWS: 19 and one are 20",
+            "drift(19) = 5; told(1) = 18; drift(1) = 6; told(1) = 19; seed(0) = 837716109");
+        sentence("n times BY DRAWS: 20 at once",
+            "drift(20) = 6; told(1) = 19; told(2) = 15; told(4) = 5; told(8) = 20; seed(0) = 837716109");
     }
 
     private static void undoneOneByOne() {
@@ -212,7 +220,8 @@ public final class AskedEdgesTest {
         sentence("it was not kept: neither, the one, the other",
             "goBack(0) = NOT; goBack(1) = NOT; goBack(2) = UNKNOWN; keep(1) = 1; goBack(0) = NOT; goBack(1) = 1",
             "goBack(0) = NOT; keep(0) = 1; goBack(0) = 1");
-        sentence("it was not kept: also the other way about", "keep(0) = 1; goBack(1) = NOT; goBack(0) = 1; goBack(1) = NOT");
+        sentence("it was not kept: also the other way about",
+            "keep(0) = 1; goBack(1) = NOT; goBack(0) = 1; goBack(1) = NOT");
     }
 
     private static void imagesKeepAllOfSection1() {

@@ -246,6 +246,10 @@ public final class GroupsEdgesTest {
         sentence("BUILT: the same number again, all as at first too",
             "shape(1, 6, 0, 6, 0, 1); call(1) = 15; build(2) = 2; group(1, 0) = 3; group(1, 4) = 0; told(1) = 0",
             "group(1, 5) = 7; group(1, 8) = 0; call(1) = 10; told(8) = 4");
+        sentence("BUILT: all as at first: OFFERED, TAKEN, WENT OVER, LOST",
+            "shape(0, 1, 2, 0, 1, 0); shape(1, 1, 2, 0, NONE, 0); call(0) = 0; call(0) = 10; call(0) = NONE",
+            "group(0, 8) = 3; group(0, 9) = 1; group(0, 10) = 1; group(0, 11) = 1; build(2) = 2; group(0, 8) = 0",
+            "group(0, 9) = 0; group(0, 10) = 0; group(0, 11) = 0; told(4) = 0");
         sentence("BUILT: fewer, and more again: those that were not are as at first",
             "build(4) = 2; shape(3, 6, 6, 6, 0, 3); call(3) = 30; damage(3, 5); build(1) = 4; line(3, 0, 0) = UNKNOWN",
             "call(3) = UNKNOWN; build(4) = 1; group(3, 0) = 3; group(3, 5) = 7; group(3, 8) = 0; group(3, 3) = NONE");

@@ -18,6 +18,7 @@ public final class LongRunEdgesTest {
         together();
         togetherCuts();
         togetherRounds();
+        togetherOfAllPairs();
         CHECKS.finish();
     }
 
@@ -234,5 +235,32 @@ public final class LongRunEdgesTest {
             "build(4); shape(0, 5, 2, 0, 1, 0); shape(1, 3, 2, 0, 2, 0); shape(2, 6, 5, 0, 3, 0)",
             "shape(3, 5, 5, 0, 0, 0); told(5) = 11; group(0, 13) = 1855; group(1, 13) = 372; group(2, 13) = 528",
             "group(3, 13) = 1155; group(0, 14) = 186; group(1, 14) = 264; group(2, 14) = 231; group(3, 14) = 371");
+    }
+
+    /** Every GROUP over every other that is over it: no B would change any more, long ahead of 30 rounds. */
+    private static void togetherOfAllPairs() {
+        for (int n = 1; n <= 6; n++) {
+            for (int a = 0; a <= 6; a++) {
+                for (int r = 0; r <= n; r++) {
+                    togetherWithEach(n, a, r);
+                }
+            }
+        }
+    }
+
+    private static void togetherWithEach(int n, int a, int r) {
+        for (int otherN = 1; otherN <= 6; otherN++) {
+            for (int otherA = 0; otherA <= 6; otherA++) {
+                TrunkReserve x = new TrunkReserve();
+                x.shape(0, n, a, r, 1, 0);
+                for (int otherR = 0; otherR <= otherN; otherR++) {
+                    x.shape(1, otherN, otherA, otherR, 0, 0);
+                    String of = n + " " + a + " " + r + ", " + otherN + " " + otherA + " " + otherR;
+                    CHECKS.due("It ends when no B changes: " + of, x.group(0, 13), otherA * x.group(1, 14));
+                    CHECKS.due("It ends when no B changes: " + of, x.group(1, 13), a * x.group(0, 14));
+                    CHECKS.holds("ROUNDS: 1 to 9 of two GROUPS: " + of, x.told(5) >= 1 && x.told(5) <= 9);
+                }
+            }
+        }
     }
 }
