@@ -70,6 +70,11 @@ public final class LongRunEdgesTest {
             "shape(0, 3, 2, 1, NONE, 0); run(0, 1, 2) = 15; run(0, 1, 3) = 23",
             "shape(0, 3, 2, 2, NONE, 0); run(0, 1, 2) = 8; run(0, 1, 3) = 9",
             "shape(0, 3, 2, 3, NONE, 0); run(0, 1, 2) = 1; run(0, 1, 3) = 1");
+        sentence("LOSS OVER: of the least: one LINE, held back or not, with LOAD and without",
+            "shape(0, 1, 0, 1, NONE, 0); run(0, 0, 2) = 1; run(0, 0, 3) = 1; run(0, 6, 2) = 1; run(0, 6, 3) = 1",
+            "shape(0, 1, 6, 1, NONE, 0); run(0, 0, 2) = 1; run(0, 0, 3) = 1; shape(0, 1, 0, 0, NONE, 0)",
+            "run(0, 0, 2) = 0; run(0, 0, 3) = 1; run(0, 1, 2) = 1; run(0, 1, 3) = 2; shape(0, 1, 6, 0, NONE, 0)",
+            "run(0, 6, 2) = 12; run(0, 6, 3) = 13");
         sentence("LOSS OVER: of the largest; all held back, even with no LOAD at all",
             "shape(0, 6, 6, 5, NONE, 0); run(0, 6, 2) = 2436; run(0, 6, 3) = 2441; run(0, 0, 2) = 1218",
             "run(0, 0, 3) = 1223; shape(0, 6, 0, 6, NONE, 0); run(0, 0, 2) = 1; run(0, 0, 3) = 1; run(0, 6, 2) = 1",
