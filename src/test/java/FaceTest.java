@@ -17,6 +17,8 @@ public final class FaceTest {
         "int mend(int,int)", "int drift(int)", "int undo(int)", "long run(int,int,int)", "long over(int,int)",
         "int linesFor(int,int,int)", "int bestReserve(int,int,int)", "int write(int,int,int)", "int tear()",
         "int seed(int)", "int keep(int)", "int goBack(int)");
+    private static final Set<String> LIBRARY = Set.of("Math.max", "Math.min", "Math.abs", "Math.floorMod", "Integer.bitCount",
+        "Arrays.fill", "System.arraycopy");
     private static final Set<String> CONSTANTS = Set.of("NONE", "UNKNOWN", "OUTSIDE", "NOT", "FULL");
 
     public static void main(String[] args) throws Exception {
@@ -43,6 +45,10 @@ public final class FaceTest {
             }
         }
         checks.holds("the methods are those of the face: " + seen, seen.equals(new TreeSet<>(FACE)));
+        for (Method m : TrunkReserve.class.getDeclaredMethods()) {
+            checks.holds(m + " is public or bears no name of the face",
+                Modifier.isPublic(m.getModifiers()) || !names.contains(m.getName()));
+        }
         for (Class<?> inside : TrunkReserve.class.getDeclaredClasses()) {
             checks.holds(inside + " is static", Modifier.isStatic(inside.getModifiers()));
             checks.holds(inside + " is not public", !Modifier.isPublic(inside.getModifiers()));
@@ -51,6 +57,10 @@ public final class FaceTest {
                 checks.holds(m + " has seven parameters at most", m.getParameterCount() <= 7);
             }
             checks.holds(inside + " has twenty fields at most", inside.getDeclaredFields().length <= 20);
+            for (Field f : inside.getDeclaredFields()) {
+                checks.holds(f + " is no static state",
+                    !Modifier.isStatic(f.getModifiers()) || Modifier.isFinal(f.getModifiers()));
+            }
         }
         checks.holds("twelve classes at most", TrunkReserve.class.getDeclaredClasses().length + 1 <= 12);
         Constructor<?>[] made = TrunkReserve.class.getDeclaredConstructors();
@@ -86,14 +96,23 @@ public final class FaceTest {
         }
     }
 
+    private static void library(Checks checks, String code) {
+        Matcher used = Pattern.compile("\\b(Math|Integer|Long|Arrays|System|String|List|ArrayList|StringBuilder)\\.\\w+")
+            .matcher(code);
+        while (used.find()) {
+            checks.holds(used.group() + " is of the library that LANGUAGE.md leaves", LIBRARY.contains(used.group()));
+        }
+    }
+
     private static void text(Checks checks) throws Exception {
         String whole = Files.readString(Path.of("src/main/java/TrunkReserve.java"));
         checks.holds("only signs 1 to 127", whole.chars().allMatch(c -> c >= 1 && c <= 127));
         String code = whole.replaceAll("(?s)/\\*.*?\\*/", "").replaceAll("//[^\n]*", "");
         for (String word : new String[] {"throw", "throws", "try", "catch", "synchronized", "assert", "package",
-            "protected", "double", "float", "Object", "Exact", "hashCode", "toString", "System.out", "native"}) {
+            "protected", "double", "float", "Object", "hashCode", "toString", "System.out", "native"}) {
             checks.holds("no " + word, !Pattern.compile("\\b" + Pattern.quote(word) + "\\b").matcher(code).find());
         }
+        library(checks, code);
         checks.holds("no lambda, no method reference", !code.contains("->") && !code.contains("::"));
         checks.holds("no text at all", code.indexOf('"') < 0);
         Matcher imports = Pattern.compile("import ([^;]*);").matcher(code);

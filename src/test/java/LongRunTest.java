@@ -1,11 +1,14 @@
-/** Every shape of a group, every load over: the exact answers of the long run, held against Model. */
+/**
+ * Every shape of a group, every load over: the exact answers of the long run, held against Model. New objects all
+ * the time, for the document promises nothing behind the 512th call of one.
+ */
 public final class LongRunTest {
     public static void main(String[] args) {
         Checks checks = new Checks();
-        TrunkReserve x = new TrunkReserve();
         for (int n = 1; n <= 6; n++) {
             for (int a = 0; a <= 6; a++) {
                 for (int r = 0; r <= n; r++) {
+                    TrunkReserve x = new TrunkReserve();
                     checks.due("shape", x.shape(0, n, a, r, 1, 0), 0);
                     overGroup(checks, x, n, a);
                     for (int b = 0; b <= 6; b++) {
@@ -14,8 +17,8 @@ public final class LongRunTest {
                 }
             }
         }
-        everyThousandth(checks, x);
-        reserveHarmsNoOwnCalls(checks, x);
+        everyThousandth(checks);
+        reserveHarmsNoOwnCalls(checks);
         checks.finish();
     }
 
@@ -36,13 +39,14 @@ public final class LongRunTest {
     }
 
     /** p thousandths at most: the step stands exactly where the loss does. */
-    private static void everyThousandth(Checks checks, TrunkReserve x) {
+    private static void everyThousandth(Checks checks) {
         Model model = new Model();
         for (int a = 0; a <= 6; a += 2) {
-            x.shape(0, 5, a, 2, 1, 0);
             model.shape(0, 5, a, 2, 1, 0);
             for (int b = 0; b <= 6; b += 3) {
                 for (int p = 1; p <= 999; p += 2) {
+                    TrunkReserve x = new TrunkReserve();
+                    x.shape(0, 5, a, 2, 1, 0);
                     String of = a + " " + b + " " + p;
                     checks.due("linesFor " + of, x.linesFor(0, b, p), model.linesFor(0, b, p));
                     checks.due("bestReserve " + of, x.bestReserve(0, b, p), model.bestReserve(0, b, p));
@@ -51,10 +55,11 @@ public final class LongRunTest {
         }
     }
 
-    private static void reserveHarmsNoOwnCalls(Checks checks, TrunkReserve x) {
+    private static void reserveHarmsNoOwnCalls(Checks checks) {
         for (int n = 1; n <= 6; n++) {
             for (int a = 0; a <= 6; a++) {
                 for (int b = 0; b <= 6; b++) {
+                    TrunkReserve x = new TrunkReserve();
                     double before = 2;
                     for (int r = 0; r <= n; r++) {
                         x.shape(0, n, a, r, 1, 0);

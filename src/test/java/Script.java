@@ -54,7 +54,7 @@ final class Script {
         return answer <= TrunkReserve.UNKNOWN && answer >= TrunkReserve.FULL;
     }
 
-    private static long answer(String text) {
+    static long answer(String text) {
         return switch (text) {
             case "NONE" -> -1L;
             case "UNKNOWN" -> -1000000001L;
